@@ -1,5 +1,3 @@
-import java.util.Arrays;
-
 /**
  * A bench for two who lay planks, one along, one across: every small board is worth an exact game,
  * games are kept in their least form, added, turned about, compared and told by kind; who wins
@@ -491,26 +489,34 @@ public final class PlankBench {
     private static final class Play {
         private static final int STATES = 1 << MOST_PLAY_FIELDS;
         private static final int MOST_PLANKS = MOST_PLAY_FIELDS / 2;
-        private static final byte WON = 1;
-        private static final byte LOST = 2;
+        private static final int WON = 1;
+        private static final int LOST = 2;
 
-        private final byte[] known = new byte[2 * STATES];
+        private final int[] known = new int[2 * STATES];
 
         boolean isWonBy(Planks planks, int who) {
-            Arrays.fill(known, (byte) 0);
-            return isWon(planks, planks.allFields(), who, 0);
+            int all = planks.allFields();
+            forget(all);
+            return isWon(planks, all, who, 0);
         }
 
         /** The place of the first plank that wins, below 0 if none does. */
         int firstWinning(Planks planks, int who) {
-            Arrays.fill(known, (byte) 0);
             int all = planks.allFields();
+            forget(all);
             for (int i = 0; i < planks.count(who); i++) {
                 if (!isWon(planks, all & ~planks.mask(who, i), 1 - who, 1)) {
                     return planks.place(who, i);
                 }
             }
             return NONE;
+        }
+
+        /** What was found on other boards doesn't hold on these. */
+        private void forget(int all) {
+            for (int state = 0; state < known.length && state < 2 * all + 2; state++) {
+                known[state] = 0;
+            }
         }
 
         private boolean isWon(Planks planks, int free, int who, int laid) {
@@ -545,23 +551,27 @@ public final class PlankBench {
             return r >= 0 && r < rowCount;
         }
 
-        private boolean isPlace(int r, int bit) {
-            return isRow(r) && bit >= 0 && bit < ROOM;
+        /** Where the word of a bit stands, below 0 if there is no such bit. */
+        private int wordAt(int r, int bit) {
+            return r >= 0 && r < rowCount && bit >= 0 && bit < ROOM ? r * WORDS + (bit >> 6) : NONE;
         }
 
         boolean has(int r, int bit) {
-            return isPlace(r, bit) && (words[r * WORDS + (bit >> 6)] >> (bit & 63) & 1L) != 0L;
+            int at = wordAt(r, bit);
+            return at >= 0 && (words[at] >> (bit & 63) & 1L) != 0L;
         }
 
         void put(int r, int bit) {
-            if (isPlace(r, bit)) {
-                words[r * WORDS + (bit >> 6)] |= 1L << (bit & 63);
+            int at = wordAt(r, bit);
+            if (at >= 0) {
+                words[at] |= 1L << (bit & 63);
             }
         }
 
         void drop(int r, int bit) {
-            if (isPlace(r, bit)) {
-                words[r * WORDS + (bit >> 6)] &= ~(1L << (bit & 63));
+            int at = wordAt(r, bit);
+            if (at >= 0) {
+                words[at] &= ~(1L << (bit & 63));
             }
         }
 
@@ -609,35 +619,58 @@ public final class PlankBench {
             return count;
         }
 
+        /**
+         * The first bit of a row at or above from, ROOM if there is none: it is never below from,
+         * so a loop that goes on at its bit + 1 counts up to its bound.
+         */
+        int next(int r, int from) {
+            if (wordAt(r, from) < 0) {
+                return ROOM;
+            }
+            long cut = -1L << (from & 63);
+            for (int w = from >> 6; w < WORDS; w++) {
+                long rest = words[r * WORDS + w] & cut;
+                if (rest != 0L) {
+                    return 64 * w + lowestBit(rest);
+                }
+                cut = -1L;
+            }
+            return ROOM;
+        }
+
         /** The i-th bit of a row, below 0 if it has none such. */
         int bitAt(int r, int i) {
             int before = 0;
-            for (int bit = 0; bit < ROOM; bit++) {
-                if (has(r, bit)) {
-                    if (before == i) {
-                        return bit;
-                    }
-                    before++;
+            for (int bit = next(r, 0); bit < ROOM; bit = next(r, bit + 1)) {
+                if (before == i) {
+                    return bit;
                 }
+                before++;
             }
             return NONE;
         }
 
         /**
-         * Whether two rows have a bit in common. No bit at or above the bound is set in both, so
-         * the words behind it need no look: most GAMES are small, and this is the dearest step.
+         * The first bit that two rows have in common, below 0 if there is none. None at or above
+         * the bound is set in both, so the words behind it need no look: most GAMES are small, and
+         * nothing is asked as often as this.
          */
-        boolean meets(int r, Rows from, int other, int bound) {
+        int common(int r, Rows from, int other, int bound) {
             if (from == null || !isRow(r) || !from.isRow(other)) {
-                return false;
+                return NONE;
             }
             int end = Math.min(WORDS, bound + 63 >> 6);
             for (int w = 0; w < end; w++) {
-                if ((words[r * WORDS + w] & from.words[other * WORDS + w]) != 0L) {
-                    return true;
+                long both = words[r * WORDS + w] & from.words[other * WORDS + w];
+                if (both != 0L) {
+                    return 64 * w + lowestBit(both);
                 }
             }
-            return false;
+            return NONE;
+        }
+
+        private static int lowestBit(long word) {
+            return Long.bitCount((word & -word) - 1L);
         }
 
         /**
@@ -797,23 +830,23 @@ public final class PlankBench {
             }
             int from = 0;
             int to = parts;
-            int below = low;
-            int over = high;
+            int lower = low;
+            int upper = high;
             for (int width = parts; width > 1; width /= 2) {
                 int middle = (from + to) / 2;
-                int between = makePair(below, over);
+                int halfway = makePair(lower, upper);
                 if (rest == middle) {
-                    return between;
+                    return halfway;
                 }
                 if (rest < middle) {
                     to = middle;
-                    over = between;
+                    upper = halfway;
                 } else {
                     from = middle;
-                    below = between;
+                    lower = halfway;
                 }
             }
-            return below;
+            return lower;
         }
 
         int makeUps(int j, boolean star) {
@@ -827,7 +860,7 @@ public final class PlankBench {
                 hand.put(near, nothing);
                 hand.put(1 - near, starred);
                 int next = settle();
-                // The SUM with STAR, whose RIGHT ones need plain: STAR twice is NOUGHT.
+                // The SUM of that and STAR; STAR in it meets another one, and both are NOUGHT.
                 openHand();
                 hand.put(near, alone);
                 hand.put(near, next);
@@ -863,14 +896,8 @@ public final class PlankBench {
             int last = 0;
             for (int g = 0; g < form.size && g < SUBSETS; g++) {
                 openHand();
-                for (int o = 0; o < g; o++) {
-                    if (form.lefts.has(g, o)) {
-                        hand.put(LEFT, made[o]);
-                    }
-                    if (form.rights.has(g, o)) {
-                        hand.put(RIGHT, made[o]);
-                    }
-                }
+                offerMade(form, g, LEFT, 1, 0);
+                offerMade(form, g, RIGHT, 1, 0);
                 last = settle();
                 made[g] = last;
             }
@@ -886,25 +913,23 @@ public final class PlankBench {
             for (int g = 0; g < a.size; g++) {
                 for (int h = 0; h < b.size; h++) {
                     openHand();
-                    offerPairs(a, g, b.size, h, 0);
-                    offerPairs(b, h, 1, 0, g * b.size);
+                    offerMade(a, g, LEFT, b.size, h);
+                    offerMade(a, g, RIGHT, b.size, h);
+                    offerMade(b, h, LEFT, 1, g * b.size);
+                    offerMade(b, h, RIGHT, 1, g * b.size);
                     made[g * b.size + h] = settle();
                 }
             }
             return made[pairs - 1];
         }
 
-        /** One of the pair moves to its option o, which stands at step * o + rest + base. */
-        private void offerPairs(Form form, int g, int step, int rest, int base) {
-            for (int o = 0; o < g; o++) {
-                int at = step * o + rest + base;
+        /** Takes in hand what was made of each option o of a FOLLOWER, found at step * o + base. */
+        private void offerMade(Form form, int g, int side, int step, int base) {
+            Rows options = form.options(side);
+            for (int o = options.next(g, 0); o < g; o = options.next(g, o + 1)) {
+                int at = step * o + base;
                 if (at >= 0 && at < SUBSETS) {
-                    if (form.lefts.has(g, o)) {
-                        hand.put(LEFT, made[at]);
-                    }
-                    if (form.rights.has(g, o)) {
-                        hand.put(RIGHT, made[at]);
-                    }
+                    hand.put(side, made[at]);
                 }
             }
         }
@@ -928,8 +953,7 @@ public final class PlankBench {
         private int settle() {
             gatherBars(count);
             for (int x = 0; x < count; x++) {
-                weigh(x, lefts, rights);
-                if (hand.has(ABOVE, x) && hand.has(BELOW, x)) {
+                if (weigh(x, lefts, rights)) {
                     return x;
                 }
             }
@@ -948,26 +972,28 @@ public final class PlankBench {
             for (int r = ABOVE; r < HAND_ROWS; r++) {
                 hand.clear(r);
             }
-            for (int o = 0; o < bound; o++) {
-                if (hand.has(LEFT, o)) {
-                    hand.join(NOT_ABOVE, below, o);
-                }
-                if (hand.has(RIGHT, o)) {
-                    hand.join(NOT_BELOW, above, o);
-                }
+            for (int o = hand.next(LEFT, 0); o < bound; o = hand.next(LEFT, o + 1)) {
+                hand.join(NOT_ABOVE, below, o);
+            }
+            for (int o = hand.next(RIGHT, 0); o < bound; o = hand.next(RIGHT, o + 1)) {
+                hand.join(NOT_BELOW, above, o);
             }
         }
 
-        /** Notes how the GAME in hand and x compare; the options of x have been weighed before. */
-        private void weigh(int x, Rows xLefts, Rows xRights) {
-            boolean atLeast = !hand.has(NOT_BELOW, x) && !xLefts.meets(x, hand, ABOVE, x);
-            boolean atMost = !hand.has(NOT_ABOVE, x) && !xRights.meets(x, hand, BELOW, x);
+        /**
+         * Notes how the GAME in hand and x compare, for that tells how it compares to those that
+         * have x as an option; the options of x have been weighed before. True if both are ALIKE.
+         */
+        private boolean weigh(int x, Rows xLefts, Rows xRights) {
+            boolean atLeast = !hand.has(NOT_BELOW, x) && xLefts.common(x, hand, ABOVE, x) < 0;
+            boolean atMost = !hand.has(NOT_ABOVE, x) && xRights.common(x, hand, BELOW, x) < 0;
             if (atLeast) {
                 hand.put(BELOW, x);
             }
             if (atMost) {
                 hand.put(ABOVE, x);
             }
+            return atLeast && atMost;
         }
 
         /**
@@ -975,8 +1001,9 @@ public final class PlankBench {
          * of what goes out, so one pass backwards meets it too.
          */
         private void bypass(int side, int past) {
+            Rows answers = options(1 - side);
             for (int o = count - 1; o >= 0; o--) {
-                int answer = hand.has(side, o) ? answerTo(o, side, past) : NONE;
+                int answer = hand.has(side, o) ? answers.common(o, hand, past, o) : NONE;
                 if (answer >= 0) {
                     hand.drop(side, o);
                     hand.join(side, options(side), answer);
@@ -984,26 +1011,11 @@ public final class PlankBench {
             }
         }
 
-        private int answerTo(int o, int side, int past) {
-            Rows answers = options(1 - side);
-            if (!answers.meets(o, hand, past, o)) {
-                return NONE;
-            }
-            for (int x = 0; x < o; x++) {
-                if (answers.has(o, x) && hand.has(past, x)) {
-                    return x;
-                }
-            }
-            return NONE;
-        }
-
         private void strike(int side, Rows better) {
-            for (int o = 0; o < count; o++) {
-                if (hand.has(side, o)) {
-                    hand.drop(side, o);
-                    if (!better.meets(o, hand, side, count)) {
-                        hand.put(side, o);
-                    }
+            for (int o = hand.next(side, 0); o < count; o = hand.next(side, o + 1)) {
+                hand.drop(side, o);
+                if (better.common(o, hand, side, count) < 0) {
+                    hand.put(side, o);
                 }
             }
         }
@@ -1016,13 +1028,11 @@ public final class PlankBench {
             below.copy(g, hand, BELOW);
             above.put(g, g);
             below.put(g, g);
-            for (int x = 0; x < g; x++) {
-                if (hand.has(BELOW, x)) {
-                    above.put(x, g);
-                }
-                if (hand.has(ABOVE, x)) {
-                    below.put(x, g);
-                }
+            for (int x = hand.next(BELOW, 0); x < g; x = hand.next(BELOW, x + 1)) {
+                above.put(x, g);
+            }
+            for (int x = hand.next(ABOVE, 0); x < g; x = hand.next(ABOVE, x + 1)) {
+                below.put(x, g);
             }
             count = g + 1;
             return g;
@@ -1075,24 +1085,33 @@ public final class PlankBench {
             }
             follows[root] = true;
             for (int g = root; g > 0; g--) {
-                for (int o = 0; follows[g] && o < g; o++) {
-                    if (from.lefts.has(g, o) || from.rights.has(g, o)) {
-                        follows[o] = true;
-                    }
+                if (follows[g]) {
+                    markOptions(from.lefts, g);
+                    markOptions(from.rights, g);
                 }
+            }
+        }
+
+        private void markOptions(Rows options, int g) {
+            for (int o = options.next(g, 0); o < g; o = options.next(g, o + 1)) {
+                follows[o] = true;
             }
         }
 
         private void findDeeps(Workshop from, int root) {
             for (int g = 0; g <= root; g++) {
-                int deep = 0;
-                for (int o = 0; follows[g] && o < g; o++) {
-                    if (from.lefts.has(g, o) || from.rights.has(g, o)) {
-                        deep = Math.max(deep, deeps[o] + 1);
-                    }
+                if (follows[g]) {
+                    deeps[g] = Math.max(deepBehind(from.lefts, g), deepBehind(from.rights, g));
                 }
-                deeps[g] = deep;
             }
+        }
+
+        private int deepBehind(Rows options, int g) {
+            int deep = 0;
+            for (int o = options.next(g, 0); o < g; o = options.next(g, o + 1)) {
+                deep = Math.max(deep, deeps[o] + 1);
+            }
+            return deep;
         }
 
         private int placeLevel(Workshop from, int root, int deep, int start, Form to) {
@@ -1114,10 +1133,8 @@ public final class PlankBench {
 
         private void rankRow(Rows from, int g, Rows to, int place) {
             to.clear(place);
-            for (int o = 0; o < g; o++) {
-                if (from.has(g, o)) {
-                    to.put(place, ranks[o]);
-                }
+            for (int o = from.next(g, 0); o < g; o = from.next(g, o + 1)) {
+                to.put(place, ranks[o]);
             }
         }
 
@@ -1239,20 +1256,16 @@ public final class PlankBench {
 
         private long greatestRightStop(Rows options, int g) {
             long greatest = Long.MIN_VALUE;
-            for (int o = 0; o < g; o++) {
-                if (options.has(g, o)) {
-                    greatest = Math.max(greatest, rightStops[o]);
-                }
+            for (int o = options.next(g, 0); o < g; o = options.next(g, o + 1)) {
+                greatest = Math.max(greatest, rightStops[o]);
             }
             return greatest;
         }
 
         private long leastLeftStop(Rows options, int g) {
             long least = Long.MAX_VALUE;
-            for (int o = 0; o < g; o++) {
-                if (options.has(g, o)) {
-                    least = Math.min(least, leftStops[o]);
-                }
+            for (int o = options.next(g, 0); o < g; o = options.next(g, o + 1)) {
+                least = Math.min(least, leftStops[o]);
             }
             return least;
         }
@@ -1296,8 +1309,8 @@ public final class PlankBench {
                 return less == 0 ? STAR : withOneUpMore(less);
             }
             int second = nears.bitAt(g, 1);
-            boolean isUpStar = far == 0 && nears.bitCount(g) == 2 && upCodes[second] == STAR;
-            return isUpStar ? 2 + STAR : NO_UPS;
+            boolean isPair = far == 0 && nears.bitCount(g) == 2 && second >= 0;
+            return isPair && upCodes[second] == STAR ? 2 + STAR : NO_UPS;
         }
 
         private static int withOneUpMore(int less) {

@@ -15,6 +15,7 @@ public final class AgainstPlainModel {
     private static final int NOT_TOLD = -1000000;
     private static int wrong = 0;
     private static int calls = 0;
+    private static int largest = 0;
 
     /** A GAME as a tree; two with the same options are one object. */
     private static final class Game {
@@ -373,6 +374,16 @@ public final class AgainstPlainModel {
             return fields(to);
         }
 
+        int largestSpot() {
+            int at = 0;
+            for (int s = 1; s < 10; s++) if (spots[s].size() > spots[at].size()) at = s;
+            return at;
+        }
+
+        int largest() {
+            return spots[largestSpot()].size();
+        }
+
         private int put(Game g, int to) {
             spots[to] = g;
             return g.size();
@@ -629,10 +640,14 @@ public final class AgainstPlainModel {
         }
     }
 
-    /** All that can be asked at the end of a run, but for the options' own options. */
-    private static void askAll(PlankBench x, Model m) {
-        for (int b = 0; b < 6; b++) {
-            for (int f = 0; f < 16; f++) due("field", x.field(b, f) ? 1 : 0, m.field(b, f) ? 1 : 0, b, f);
+    /** Most of what can be asked, at the end of a run: 219 calls. */
+    private static void askAll(Random r, PlankBench x, Model m) {
+        int b = r.nextInt(6);
+        for (int f = 0; f < 16; f++) due("field", x.field(b, f) ? 1 : 0, m.field(b, f) ? 1 : 0, b, f);
+        for (int c = 0; c < 6; c++) {
+            due("fields", x.fields(c), m.fields(c), c);
+            due("parts", x.parts(c), m.parts(c), c);
+            due("lift", x.lift(c), m.lift(c), c);
         }
         for (int a = 0; a < 10; a++) {
             for (int what = 0; what < 5; what++) due("told", x.told(a, what), m.told(a, what), a, what);
@@ -642,12 +657,12 @@ public final class AgainstPlainModel {
                 due("stop", x.stop(a, 0, what), m.stop(a, 0, what), a, 0, what);
                 due("stop", x.stop(a, 1, what), m.stop(a, 1, what), a, 1, what);
             }
-            for (int b = 0; b < 10; b++) due("compare", x.compare(a, b), m.compare(a, b), a, b);
+            for (int c = 0; c < a; c++) due("compare", x.compare(a, c), m.compare(a, c), a, c);
             due("wins", x.wins(a), m.wins(a), a);
         }
     }
 
-    /** Down from one spot by options, asking at each step: shows the ORDER of what is held. */
+    /** Down from one spot by options, asking at each step: shows the ORDER of what is held. 56 calls. */
     private static void descend(Random r, PlankBench x, Model m, int a) {
         for (int step = 0; step < 8; step++) {
             int side = r.nextInt(2);
@@ -665,8 +680,9 @@ public final class AgainstPlainModel {
         PlankBench x = new PlankBench();
         int most = new int[] {15, 7, 3, 11}[seed % 4];
         int kinds = seed % 3;
-        int longest = 90 + r.nextInt(150);
-        for (int i = 0; i < longest; i++) {
+        int longest = 100 + r.nextInt(120);
+        int before = calls;
+        while (calls - before < longest) {
             int choice = r.nextInt(10);
             int boards = kinds == 0 ? 5 : kinds == 1 ? 2 : 1;
             if (choice < boards) {
@@ -677,8 +693,73 @@ public final class AgainstPlainModel {
                 tellCall(r, x, m);
             }
         }
-        askAll(x, m);
+        askAll(r, x, m);
         descend(r, x, m, r.nextInt(10));
+        atMost512(before);
+    }
+
+    /** What an object answers behind its 512th call is free, so nothing may be asked there. */
+    private static void atMost512(int before) {
+        if (calls - before > 512) {
+            wrong++;
+            System.out.println("the test itself is wrong: " + (calls - before) + " calls of one object");
+        }
+    }
+
+    /** Large GAMES: hot, cold and small ones put together for long, up to where LARGE is answered. */
+    private static void heavyRun(int seed) {
+        Random r = new Random(1000003L * seed);
+        Model m = new Model(new Games());
+        PlankBench x = new PlankBench();
+        int before = calls;
+        for (int s = 0; s < 10; s++) start(r, x, m, s);
+        while (calls - before < 325) {
+            int to = r.nextInt(10);
+            int a = r.nextInt(10);
+            int b = r.nextInt(10);
+            int choice = r.nextInt(10);
+            if (choice < 5) {
+                int lefts = r.nextInt(1024) & r.nextInt(1024) | 1 << a;
+                int rights = r.nextInt(1024) & r.nextInt(1024) | 1 << b;
+                due("game", x.game(lefts, rights, to), m.game(lefts, rights, to), lefts, rights, to);
+            } else if (choice < 8) {
+                due("add", x.add(a, b, to), m.add(a, b, to), a, b, to);
+            } else if (choice < 9) {
+                due("turn", x.turn(a, to), m.turn(a, to), a, to);
+            } else if (m.spots[to].size() > 40) {
+                start(r, x, m, to);
+            } else {
+                due("compare", x.compare(to, a), m.compare(to, a), to, a);
+            }
+        }
+        largest = Math.max(largest, m.largest());
+        for (int what = 0; what < 5; what++) {
+            for (int a = 0; a < 10; a++) due("told", x.told(a, what), m.told(a, what), a, what);
+        }
+        for (int a = 0; a < 10; a++) {
+            due("compare", x.compare(a, a * 7 % 10), m.compare(a, a * 7 % 10), a, a * 7 % 10);
+            due("stop", x.stop(a, seed % 2, 0), m.stop(a, seed % 2, 0), a, seed % 2, 0);
+        }
+        descend(r, x, m, m.largestSpot());
+        descend(r, x, m, r.nextInt(10));
+        atMost512(before);
+    }
+
+    private static void start(Random r, PlankBench x, Model m, int s) {
+        int choice = r.nextInt(3);
+        if (choice == 0) {
+            int n = r.nextInt(129) - 64;
+            due("number", x.number(n, 3, s), m.number(n, 3, s), n, 3, s);
+        } else if (choice == 1) {
+            int j = r.nextInt(13) - 6;
+            due("up", x.up(j, s % 2 == 0, s), m.up(j, s % 2 == 0, s), j, s % 2, s);
+        } else {
+            for (int q = 0; q < 4; q++) {
+                int bits = r.nextInt(16) & (r.nextInt(16) | r.nextInt(16));
+                due("row", x.row(0, q, bits), m.row(0, q, bits), 0, q, bits);
+            }
+            due("worth", x.worth(0, s), m.worth(0, s), 0, s);
+        }
     }
 
     /** Boards of every kind, each worth its GAME, with the options of it in ORDER. */
@@ -717,7 +798,13 @@ public final class AgainstPlainModel {
             run(seed);
             if (wrong > before && wrong <= 50) System.out.println("in the run of seed " + seed);
         }
+        for (int seed = firstSeed; seed < firstSeed + runs; seed++) {
+            int before = wrong;
+            heavyRun(seed);
+            if (wrong > before && wrong <= 50) System.out.println("in the heavy run of seed " + seed);
+        }
         boardsInTurn();
+        System.out.println("the largest GAME had SIZE " + largest);
         System.out.println(wrong == 0 ? calls + " answers are as due" : wrong + " answers are not as due");
         if (wrong != 0) System.exit(1);
     }
