@@ -745,6 +745,56 @@ public final class AgainstPlainModel {
         atMost512(before);
     }
 
+    /**
+     * Four SWITCHES that only their LEFT ones put in ORDER, beside what has more than 64 FOLLOWERS
+     * less DEEP than these: so the ORDER hangs on late ones.
+     */
+    private static void wideRun(int seed) {
+        Random r = new Random(7919L * seed);
+        Model m = new Model(new Games());
+        PlankBench x = new PlankBench();
+        int before = calls;
+        int[] spots = {0, 1, 2, 3};
+        for (int i = 0; i < 4; i++) {
+            int other = r.nextInt(4);
+            int kept = spots[i];
+            spots[i] = spots[other];
+            spots[other] = kept;
+        }
+        for (int i = 0; i < 4; i++) switchOf(x, m, 57 + 2 * i, -33 - r.nextInt(3) - 4 * i, spots[i]);
+        for (int s = 4; s < 6; s++) {
+            switchOf(x, m, 9 + r.nextInt(4), -5 - r.nextInt(6), 6);
+            switchOf(x, m, 1 + r.nextInt(6), -1 - r.nextInt(12), 7);
+            due("add", x.add(6, 7, s), m.add(6, 7, s), 6, 7, s);
+            switchOf(x, m, 13 + r.nextInt(4), -11 - r.nextInt(6), 6);
+            due("add", x.add(6, s, s), m.add(6, s, s), 6, s, s);
+        }
+        due("number", x.number(-8, 0, 6), m.number(-8, 0, 6), -8, 0, 6);
+        due("game", x.game(63, 64, 7), m.game(63, 64, 7), 63, 64, 7);
+        largest = Math.max(largest, m.largest());
+        askOptions(x, m, 7, 8);
+        due("turn", x.turn(7, 7), m.turn(7, 7), 7, 7);
+        askOptions(x, m, 7, 8);
+        atMost512(before);
+    }
+
+    /** The SWITCH of two numbers of eighths. */
+    private static void switchOf(PlankBench x, Model m, int left, int right, int to) {
+        due("number", x.number(left, 3, 8), m.number(left, 3, 8), left, 3, 8);
+        due("number", x.number(right, 3, 9), m.number(right, 3, 9), right, 3, 9);
+        due("game", x.game(256, 512, to), m.game(256, 512, to), 256, 512, to);
+    }
+
+    private static void askOptions(PlankBench x, Model m, int a, int to) {
+        for (int side = 0; side < 2; side++) {
+            for (int i = 0; i < Math.min(7, m.told(a, 2 + side)); i++) {
+                due("option", x.option(a, side, i, to), m.option(a, side, i, to), a, side, i, to);
+                due("stop", x.stop(to, 0, 0), m.stop(to, 0, 0), to, 0, 0);
+                due("stop", x.stop(to, 1, 0), m.stop(to, 1, 0), to, 1, 0);
+            }
+        }
+    }
+
     private static void start(Random r, PlankBench x, Model m, int s) {
         int choice = r.nextInt(3);
         if (choice == 0) {
@@ -802,6 +852,11 @@ public final class AgainstPlainModel {
             int before = wrong;
             heavyRun(seed);
             if (wrong > before && wrong <= 50) System.out.println("in the heavy run of seed " + seed);
+        }
+        for (int seed = firstSeed; seed < firstSeed + runs; seed++) {
+            int before = wrong;
+            wideRun(seed);
+            if (wrong > before && wrong <= 50) System.out.println("in the wide run of seed " + seed);
         }
         boardsInTurn();
         System.out.println("the largest GAME had SIZE " + largest);

@@ -207,6 +207,8 @@ public final class Promises {
         for (int f = 0; f < 16; f += 2) due("lay(0, " + f + ", 0)", x.lay(0, f, 0), f / 2 + 1);
         due("fields, all laid", x.fields(0), 0);
         due("lay, none FREE", x.lay(0, 0, 1), KIND);
+        for (int f = 14; f >= 0; f -= 2) due("lift, one of eight", x.lift(0), f);
+        due("the mask, all lifted", mask(x, 0), 0xFFFF);
         board(x, 1, 15, 15, 15, 15);
         for (int f : new int[] {3, 7, 11, 15}) due("lay(1, " + f + ", 0)", x.lay(1, f, 0), KIND);
         for (int f : new int[] {12, 13, 14, 15}) due("lay(1, " + f + ", 1)", x.lay(1, f, 1), KIND);
