@@ -795,6 +795,32 @@ public final class AgainstPlainModel {
         }
     }
 
+    /**
+     * A GAME of SIZE 300 and 20 DEEP, as large as any can be: what Boundaries takes for it. From 3 and
+     * STAR on, {G + n / 2^k | G} of the G before; then that and it TURNED.
+     */
+    private static void fullRun(int[][] growth) {
+        Model m = new Model(new Games());
+        PlankBench x = new PlankBench();
+        due("number", x.number(3, 0, 9), m.number(3, 0, 9), 3, 0, 9);
+        due("game", x.game(512, 512, 0), m.game(512, 512, 0), 512, 512, 0);
+        for (int[] step : growth) {
+            due("number", x.number(step[0], step[1], 9), m.number(step[0], step[1], 9), step[0], step[1], 9);
+            due("add", x.add(0, 9, 9), m.add(0, 9, 9), 0, 9, 9);
+            due("game", x.game(512, 1, 0), m.game(512, 1, 0), 512, 1, 0);
+        }
+        due("turn", x.turn(0, 1), m.turn(0, 1), 0, 1);
+        for (int[] sets : new int[][] {{1, 2, 2}, {1, 1, 3}, {4, 0, 4}, {0, 4, 4}, {4, 16, 5}, {4, 4, 5}, {2, 1, 6}}) {
+            due("game", x.game(sets[0], sets[1], sets[2]), m.game(sets[0], sets[1], sets[2]), sets);
+        }
+        due("add", x.add(2, 8, 7), m.add(2, 8, 7), 2, 8, 7);
+        due("add", x.add(2, 1, 7), m.add(2, 1, 7), 2, 1, 7);
+        due("turn", x.turn(2, 8), m.turn(2, 8), 2, 8);
+        askAll(new Random(1), x, m);
+        for (int a : new int[] {0, 2, 3, 6}) descend(new Random(a), x, m, a);
+        largest = Math.max(largest, m.largest());
+    }
+
     private static void start(Random r, PlankBench x, Model m, int s) {
         int choice = r.nextInt(3);
         if (choice == 0) {
@@ -859,6 +885,8 @@ public final class AgainstPlainModel {
             if (wrong > before && wrong <= 50) System.out.println("in the wide run of seed " + seed);
         }
         boardsInTurn();
+        fullRun(new int[][] {{1, 3}, {1, 2}, {3, 3}, {1, 0}, {3, 1}, {2, 0}});
+        fullRun(new int[][] {{1, 3}, {3, 3}, {1, 1}, {3, 2}, {7, 2}, {2, 0}});
         System.out.println("the largest GAME had SIZE " + largest);
         System.out.println(wrong == 0 ? calls + " answers are as due" : wrong + " answers are not as due");
         if (wrong != 0) System.exit(1);
