@@ -347,6 +347,10 @@ public final class Boundaries {
         due("parts(0), joined from below", x.parts(0), 1);
         board(x, 0, 13, 5, 5, 7);
         due("parts(0), joined to the left from below", x.parts(0), 1);
+        board(x, 0, 8, 8, 12, 6);
+        due("parts(0), stairs to the left", x.parts(0), 1);
+        board(x, 0, 1, 3, 2, 14);
+        due("parts(0), stairs to the right", x.parts(0), 1);
     }
 
     // ---- Terms 2
@@ -630,7 +634,18 @@ public final class Boundaries {
         x.up(0, true, 0);
         stops(x, 0, 0, 0);
 
+        pair(x, 5, -1, 1);
+        twoLefts(x, 0, 0);
+        x.number(-8, 0, 9);
+        x.game(1 << 1 | 1 << 5, 1 << 9, 6);
+        due("two of one DEEP", x.told(6, 2), 2);
+        stops(x, 6, 0, -32);
+
         says("Terms 3", "the RIGHT STOP the least of the LEFT STOPS of its RIGHT ones");
+        x.number(8, 0, 9);
+        x.game(1 << 9, 1 << 1 | 1 << 5, 6);
+        due("two of one DEEP", x.told(6, 3), 2);
+        stops(x, 6, 32, 12);
         twoRights(x, 4);
         stops(x, 5, 16, -12);
 
@@ -680,6 +695,11 @@ public final class Boundaries {
         x.number(63, 3, 2);
         x.game(1 << 1, 1 << 2, 3);
         due("{8 | 63 / 8}", x.told(3, 4), 2);
+        pair(x, 0, -1, 3);
+        due("{0 | -1}", x.told(3, 4), 2);
+        pair(x, 1, 0, 3);
+        due("{1 | 0}", x.told(3, 4), 2);
+        x.number(8, 0, 1);
         x.game(1 << 1, 1 << 1, 3);
         due("{8 | 8}", x.told(3, 4), 0);
         x.game(1 << 2, 1 << 1, 3);
@@ -1143,6 +1163,13 @@ public final class Boundaries {
         x.number(0, 0, 9);
     }
 
+    private static void oneIn(PlankBench x, int n, int spot) {
+        whole(x, n, 8);
+        x.number(0, 0, 9);
+        x.add(8, 9, spot);
+        if (spot != 8) x.number(0, 0, 8);
+    }
+
     /** SIZE 21 in SPOTS 0 .. 6, another one in SPOT 7, NOUGHT in 8 and 9. */
     private static void sevenOf21(PlankBench x, int other) {
         whole(x, 20, 0);
@@ -1196,6 +1223,15 @@ public final class Boundaries {
         refused(Boundaries::deepOnes, LARGE, new int[] {2, 3, 8, 1 << 1 | 1 << 9}, "game(0, ?, 5)", (y, v) -> y.game(0, v, 5));
         refused(Boundaries::deepOnes, LARGE, new int[] {1, 2, 16}, "game(2, ?, 5)", (y, v) -> y.game(2, v, 5));
         refused(Boundaries::deepOnes, LARGE, new int[] {1, 2, 16}, "game(?, 2, 5)", (y, v) -> y.game(v, 2, 5));
+
+        says("Promise 13", "LARGE: one of these GAMES is more than 20 DEEP, in whichever SPOT");
+        for (int s = 0; s < 10; s++) {
+            int spot = s;
+            x = benchIn(y -> oneIn(y, 20, spot));
+            due("20 in " + s, x.game(1 << s, 0, s), 22);
+            refused(y -> oneIn(y, 21, spot), LARGE, "game(21 | )", (y, v) -> y.game(1 << spot, 0, 5));
+            refused(y -> oneIn(y, 21, spot), LARGE, "game( | 21)", (y, v) -> y.game(0, 1 << spot, 5));
+        }
 
         says("Promise 13", "LARGE: a GAME that is more than 20 DEEP in another SPOT is none of these");
         x = benchIn(Boundaries::deepOnes);
@@ -1558,6 +1594,15 @@ public final class Boundaries {
         for (int b = 0; b < 6; b++) x.row(b, 3, 12);
     }
 
+    /** Three planks of ALONG on boards 0 .. 2, three of ACROSS on boards 3 .. 5: twelve fields. */
+    private static void threeEach(PlankBench x) {
+        for (int b = 0; b < 3; b++) x.row(b, 3, 12);
+        for (int b = 3; b < 6; b++) {
+            x.row(b, 2, 8);
+            x.row(b, 3, 8);
+        }
+    }
+
     /** One field more, on board 5, that no plank can cover. */
     private static void thirteenFields(PlankBench x) {
         sixPlanks(x);
@@ -1605,6 +1650,32 @@ public final class Boundaries {
             refused(Boundaries::thirteenFields, LARGE, "beginner(63, who)", (y, v) -> y.beginner(63, asked));
             refused(Boundaries::fillAll, LARGE, new int[] {1, 32, 63}, "beginner(?, who)", (y, v) -> y.beginner(v, asked));
         }
+
+        says("Promise 23", "twelve fields, and six planks in turn");
+        x = benchIn(Boundaries::threeEach);
+        for (int who = 0; who < 2; who++) {
+            due("beginner(63, who), three each", x.beginner(63, who), 0);
+            due("best(63, who), three each", x.best(63, who), NONE);
+            due("beginner(62, who), two of ALONG", x.beginner(62, who), who);
+            due("best(62, who), two of ALONG", x.best(62, who), who == 0 ? NONE : 59);
+            due("beginner(31, who), two of ACROSS", x.beginner(31, who), 1 - who);
+            due("best(31, who), two of ACROSS", x.best(31, who), who == 0 ? 14 : NONE);
+        }
+
+        says("Promise 23", "of these boards, whatever was asked of others before");
+        x = benchIn(Boundaries::threeEach);
+        for (int b = 0; b < 6; b++) {
+            for (int who = 0; who < 2; who++) {
+                boolean wins = who == b / 3;
+                due("beginner of " + b, x.beginner(1 << b, who), wins ? 1 : 0);
+                due("best of " + b, x.best(1 << b, who), wins ? 16 * b + (b < 3 ? 14 : 11) : NONE);
+                due("beginner of " + (5 - b), x.beginner(1 << 5 - b, who), wins ? 0 : 1);
+            }
+        }
+        x.row(0, 3, 0);
+        due("beginner(1, 0), another row", x.beginner(1, 0), 0);
+        x.row(0, 3, 3);
+        due("beginner(1, 0), another row", x.beginner(1, 0), 1);
 
         says("Promise 23", "LARGE: more than 12 fields, of one board");
         x = new PlankBench();
