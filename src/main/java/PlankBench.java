@@ -26,7 +26,10 @@ public final class PlankBench {
     private static final int MOST_COMPARED = 600;
     private static final int NOT_TOLD = -1000000;
 
-    /** A row of bits is so many words long; the document's limits keep every SIZE at 301 or less. */
+    /**
+     * A row of bits is so many words long: the document's limits keep every SIZE at 300 or less, and
+     * what stands on the workshop at one more.
+     */
     private static final int WORDS = 5;
     private static final int ROOM = 64 * WORDS;
 
@@ -497,7 +500,7 @@ public final class PlankBench {
         boolean isWonBy(Planks planks, int who) {
             int all = planks.allFields();
             forget(all);
-            return isWon(planks, all, who, 0);
+            return isWon(known, planks, all, who, 0);
         }
 
         /** The place of the first plank that wins, below 0 if none does. */
@@ -505,7 +508,7 @@ public final class PlankBench {
             int all = planks.allFields();
             forget(all);
             for (int i = 0; i < planks.count(who); i++) {
-                if (!isWon(planks, all & ~planks.mask(who, i), 1 - who, 1)) {
+                if (!isWon(known, planks, all & ~planks.mask(who, i), 1 - who, 1)) {
                     return planks.place(who, i);
                 }
             }
@@ -519,25 +522,29 @@ public final class PlankBench {
             }
         }
 
-        private boolean isWon(Planks planks, int free, int who, int laid) {
-            if (laid > MOST_PLANKS || free < 0 || free >= STATES || !isSide(who)) {
+        private static boolean isWon(int[] known, Planks planks, int free, int who, int laid) {
+            int state = 2 * free + who;
+            if (laid > MOST_PLANKS || !isSide(who) || state < 0 || state >= known.length) {
                 return false;
             }
-            int state = 2 * free + who;
             if (known[state] != 0) {
                 return known[state] == WON;
             }
             boolean won = false;
             for (int i = 0; i < planks.count(who) && !won; i++) {
                 int mask = planks.mask(who, i);
-                won = (free & mask) == mask && !isWon(planks, free & ~mask, 1 - who, laid + 1);
+                won = (free & mask) == mask
+                    && !isWon(known, planks, free & ~mask, 1 - who, laid + 1);
             }
             known[state] = won ? WON : LOST;
             return won;
         }
     }
 
-    /** Rows of bits, one bit for each GAME that a row may name. */
+    /**
+     * Rows of bits, one bit for each GAME that a row may name. Loops over them go from bit to bit by
+     * next(), but by one at least: so that they end can be seen without looking here.
+     */
     private static final class Rows {
         private final int rowCount;
         private final long[] words;
@@ -619,10 +626,7 @@ public final class PlankBench {
             return count;
         }
 
-        /**
-         * The first bit of a row at or above from, ROOM if there is none: it is never below from,
-         * so a loop that goes on at its bit + 1 counts up to its bound.
-         */
+        /** The first bit of a row at or above from, ROOM if there is none. */
         int next(int r, int from) {
             if (wordAt(r, from) < 0) {
                 return ROOM;
@@ -631,7 +635,7 @@ public final class PlankBench {
             for (int w = from >> 6; w < WORDS; w++) {
                 long rest = words[r * WORDS + w] & cut;
                 if (rest != 0L) {
-                    return 64 * w + lowestBit(rest);
+                    return 64 * w + Long.bitCount((rest & -rest) - 1L);
                 }
                 cut = -1L;
             }
@@ -641,7 +645,7 @@ public final class PlankBench {
         /** The i-th bit of a row, below 0 if it has none such. */
         int bitAt(int r, int i) {
             int before = 0;
-            for (int bit = next(r, 0); bit < ROOM; bit = next(r, bit + 1)) {
+            for (int bit = next(r, 0); bit < ROOM; bit = Math.max(bit + 1, next(r, bit + 1))) {
                 if (before == i) {
                     return bit;
                 }
@@ -663,14 +667,10 @@ public final class PlankBench {
             for (int w = 0; w < end; w++) {
                 long both = words[r * WORDS + w] & from.words[other * WORDS + w];
                 if (both != 0L) {
-                    return 64 * w + lowestBit(both);
+                    return 64 * w + Long.bitCount((both & -both) - 1L);
                 }
             }
             return NONE;
-        }
-
-        private static int lowestBit(long word) {
-            return Long.bitCount((word & -word) - 1L);
         }
 
         /**
@@ -926,7 +926,7 @@ public final class PlankBench {
         /** Takes in hand what was made of each option o of a FOLLOWER, found at step * o + base. */
         private void offerMade(Form form, int g, int side, int step, int base) {
             Rows options = form.options(side);
-            for (int o = options.next(g, 0); o < g; o = options.next(g, o + 1)) {
+            for (int o = options.next(g, 0); o < g; o = Math.max(o + 1, options.next(g, o + 1))) {
                 int at = step * o + base;
                 if (at >= 0 && at < SUBSETS) {
                     hand.put(side, made[at]);
@@ -972,10 +972,10 @@ public final class PlankBench {
             for (int r = ABOVE; r < HAND_ROWS; r++) {
                 hand.clear(r);
             }
-            for (int o = hand.next(LEFT, 0); o < bound; o = hand.next(LEFT, o + 1)) {
+            for (int o = hand.next(LEFT, 0); o < bound; o = Math.max(o + 1, hand.next(LEFT, o + 1))) {
                 hand.join(NOT_ABOVE, below, o);
             }
-            for (int o = hand.next(RIGHT, 0); o < bound; o = hand.next(RIGHT, o + 1)) {
+            for (int o = hand.next(RIGHT, 0); o < bound; o = Math.max(o + 1, hand.next(RIGHT, o + 1))) {
                 hand.join(NOT_BELOW, above, o);
             }
         }
@@ -1012,7 +1012,7 @@ public final class PlankBench {
         }
 
         private void strike(int side, Rows better) {
-            for (int o = hand.next(side, 0); o < count; o = hand.next(side, o + 1)) {
+            for (int o = hand.next(side, 0); o < count; o = Math.max(o + 1, hand.next(side, o + 1))) {
                 hand.drop(side, o);
                 if (better.common(o, hand, side, count) < 0) {
                     hand.put(side, o);
@@ -1028,10 +1028,10 @@ public final class PlankBench {
             below.copy(g, hand, BELOW);
             above.put(g, g);
             below.put(g, g);
-            for (int x = hand.next(BELOW, 0); x < g; x = hand.next(BELOW, x + 1)) {
+            for (int x = hand.next(BELOW, 0); x < g; x = Math.max(x + 1, hand.next(BELOW, x + 1))) {
                 above.put(x, g);
             }
-            for (int x = hand.next(ABOVE, 0); x < g; x = hand.next(ABOVE, x + 1)) {
+            for (int x = hand.next(ABOVE, 0); x < g; x = Math.max(x + 1, hand.next(ABOVE, x + 1))) {
                 below.put(x, g);
             }
             count = g + 1;
@@ -1093,7 +1093,7 @@ public final class PlankBench {
         }
 
         private void markOptions(Rows options, int g) {
-            for (int o = options.next(g, 0); o < g; o = options.next(g, o + 1)) {
+            for (int o = options.next(g, 0); o < g; o = Math.max(o + 1, options.next(g, o + 1))) {
                 follows[o] = true;
             }
         }
@@ -1108,7 +1108,7 @@ public final class PlankBench {
 
         private int deepBehind(Rows options, int g) {
             int deep = 0;
-            for (int o = options.next(g, 0); o < g; o = options.next(g, o + 1)) {
+            for (int o = options.next(g, 0); o < g; o = Math.max(o + 1, options.next(g, o + 1))) {
                 deep = Math.max(deep, deeps[o] + 1);
             }
             return deep;
@@ -1133,7 +1133,7 @@ public final class PlankBench {
 
         private void rankRow(Rows from, int g, Rows to, int place) {
             to.clear(place);
-            for (int o = from.next(g, 0); o < g; o = from.next(g, o + 1)) {
+            for (int o = from.next(g, 0); o < g; o = Math.max(o + 1, from.next(g, o + 1))) {
                 to.put(place, ranks[o]);
             }
         }
@@ -1256,7 +1256,7 @@ public final class PlankBench {
 
         private long greatestRightStop(Rows options, int g) {
             long greatest = Long.MIN_VALUE;
-            for (int o = options.next(g, 0); o < g; o = options.next(g, o + 1)) {
+            for (int o = options.next(g, 0); o < g; o = Math.max(o + 1, options.next(g, o + 1))) {
                 greatest = Math.max(greatest, rightStops[o]);
             }
             return greatest;
@@ -1264,7 +1264,7 @@ public final class PlankBench {
 
         private long leastLeftStop(Rows options, int g) {
             long least = Long.MAX_VALUE;
-            for (int o = options.next(g, 0); o < g; o = options.next(g, o + 1)) {
+            for (int o = options.next(g, 0); o < g; o = Math.max(o + 1, options.next(g, o + 1))) {
                 least = Math.min(least, leftStops[o]);
             }
             return least;

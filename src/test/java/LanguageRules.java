@@ -1,4 +1,5 @@
-import java.io.IOException;
+import java.io.PrintWriter;
+import java.io.StringWriter;
 import java.lang.reflect.Constructor;
 import java.lang.reflect.Field;
 import java.lang.reflect.Member;
@@ -7,11 +8,15 @@ import java.lang.reflect.Modifier;
 import java.nio.file.Files;
 import java.nio.file.Path;
 import java.util.Arrays;
+import java.util.HashMap;
 import java.util.List;
+import java.util.Map;
+import java.util.Optional;
 import java.util.Set;
 import java.util.TreeSet;
 import java.util.regex.Matcher;
 import java.util.regex.Pattern;
+import java.util.spi.ToolProvider;
 
 /** The document's face, and those rules of the language that can be read off the class and its text. */
 public final class LanguageRules {
@@ -23,7 +28,13 @@ public final class LanguageRules {
         "int option(int, int, int, int)", "int told(int, int)", "int compare(int, int)", "int wins(int)",
         "int value(int, int)", "int ups(int, int)", "int stop(int, int, int)", "int beginner(int, int)",
         "int best(int, int)"));
+    private static final Set<String> LIBRARY = Set.of("java/lang/Object.<init>", "java/lang/Integer.bitCount", "java/lang/Long.bitCount",
+        "java/lang/Math.max", "java/lang/Math.min", "java/lang/Math.abs", "java/lang/Math.floorDiv", "java/lang/Math.floorMod");
+    /** Stands among the calls for the making of an object or array. */
+    private static final String MAKING = "new";
     private static final Set<String> CONSTANTS = new TreeSet<>(List.of("NUMBER", "KIND", "LARGE", "NONE"));
+
+    private static final Optional<ToolProvider> JAVAP = ToolProvider.findFirst("javap");
 
     private static int wrong = 0;
 
@@ -94,11 +105,110 @@ public final class LanguageRules {
         }
         Matcher library = Pattern.compile("\\bSystem\\.(?!arraycopy)\\w+|\\b\\w+Exact\\b|\\bThread\\b|\\bRandom\\b|::").matcher(bare);
         while (library.find()) fault("rule 4: " + library.group());
+        checkLoops(bare);
     }
 
-    public static void main(String[] args) throws IOException {
+    /** Rule 9: a counter that each round moves by one at least, or halves, against a bound. */
+    private static void checkLoops(String bare) {
+        Pattern counted = Pattern.compile("for \\(int (\\w+) = [^;]*; (\\1 (<|<=|>|>=) [^;]*); ([^{]*)\\) \\{");
+        Matcher loops = Pattern.compile("\\b(for|while|do)\\b[^\n]*").matcher(bare);
+        int seen = 0;
+        while (loops.find()) {
+            seen++;
+            Matcher m = counted.matcher(loops.group());
+            if (!m.matches() || !isCounting(m.group(1), m.group(3), m.group(4))) fault("rule 9: " + loops.group());
+        }
+        if (seen == 0) fault("rule 9: no loop was found to look at");
+    }
+
+    private static boolean isCounting(String counter, String towards, String step) {
+        boolean goesUp = step.equals(counter + "++") || step.startsWith(counter + " = Math.max(" + counter + " + 1, ");
+        boolean goesDown = step.equals(counter + "--") || step.equals(counter + " /= 2");
+        return towards.startsWith("<") ? goesUp : goesDown;
+    }
+
+    /** Who calls whom, by name, the library too; read off what javap shows of the compiled class. */
+    private static Map<String, Set<String>> calls() throws Exception {
+        Path folder = Path.of(PlankBench.class.getProtectionDomain().getCodeSource().getLocation().toURI());
+        Map<String, Set<String>> calls = new HashMap<>();
+        try (var files = Files.list(folder)) {
+            for (Path file : files.filter(f -> f.getFileName().toString().startsWith("PlankBench")).toList()) {
+                noteCalls(file.getFileName().toString().replace(".class", ""), shown(file), calls);
+            }
+        }
+        return calls;
+    }
+
+    private static String shown(Path file) {
+        StringWriter text = new StringWriter();
+        PrintWriter out = new PrintWriter(text);
+        JAVAP.orElseThrow().run(out, out, "-p", "-c", file.toString());
+        return text.toString();
+    }
+
+    private static void noteCalls(String inside, String text, Map<String, Set<String>> calls) {
+        Pattern head = Pattern.compile("  (?:\\S+ )*([\\w$]+)\\(.*\\);");
+        Pattern call = Pattern.compile(".*: invoke.*// (?:Interface)?Method (\\S+):.*");
+        Set<String> here = null;
+        for (String line : text.split("\\R")) {
+            Matcher h = head.matcher(line);
+            Matcher c = call.matcher(line);
+            if (h.matches()) {
+                String name = h.group(1).equals(inside) ? "<init>" : h.group(1);
+                here = calls.computeIfAbsent(inside + "." + name, k -> new TreeSet<>());
+            } else if (c.matches() && here != null) {
+                String name = c.group(1).replace("\"", "");
+                here.add(name.contains(".") ? name : inside + "." + name);
+            } else if (here != null && line.matches(" *\\d+: (new|newarray|anewarray|multianewarray) .*")) {
+                here.add(MAKING);
+            }
+        }
+    }
+
+    private static void checkCalls() throws Exception {
+        if (JAVAP.isEmpty()) {
+            System.out.println("this Java has no javap inside: what calls what was not looked at");
+            return;
+        }
+        Map<String, Set<String>> calls = calls();
+        checkDepth(calls);
+        for (var entry : calls.entrySet()) {
+            for (String called : entry.getValue()) {
+                boolean isOwn = called.equals(MAKING) || calls.containsKey(called);
+                if (!isOwn && !LIBRARY.contains(called)) fault("rule 4: " + entry.getKey() + " calls " + called);
+            }
+            boolean makes = entry.getValue().contains(MAKING);
+            if (makes && !entry.getKey().endsWith("<init>")) fault("rule 12: " + entry.getKey() + " makes an object");
+        }
+    }
+
+    /** Rules 8 and 11: one method calls itself, no other circle; all else goes eight deep at most. */
+    private static void checkDepth(Map<String, Set<String>> calls) {
+        Set<String> selfCallers = new TreeSet<>();
+        for (var entry : calls.entrySet()) {
+            if (entry.getValue().remove(entry.getKey())) selfCallers.add(entry.getKey());
+        }
+        if (!selfCallers.equals(Set.of("PlankBench$Play.isWon"))) fault("rule 8: " + selfCallers + " call themselves");
+        for (String face : FACE) {
+            String name = face.substring(face.indexOf(' ') + 1, face.indexOf('('));
+            if (!calls.containsKey("PlankBench." + name)) fault("rule 11: no calls of " + name + " were found");
+            int deep = deepest(calls, "PlankBench." + name, 1);
+            if (deep > 8) fault("rule 11: " + name + " goes " + deep + " calls deep");
+        }
+    }
+
+    private static int deepest(Map<String, Set<String>> calls, String from, int deep) {
+        int most = deep;
+        // A circle of calls would go on for ever: it is told as twenty deep.
+        if (deep >= 20) return deep;
+        for (String next : calls.getOrDefault(from, Set.of())) most = Math.max(most, deepest(calls, next, deep + 1));
+        return most;
+    }
+
+    public static void main(String[] args) throws Exception {
         checkFace();
         checkClasses();
+        checkCalls();
         checkText(Files.readString(Path.of("src/main/java/PlankBench.java")));
         System.out.println(wrong == 0 ? "the face and the rules are kept" : wrong + " faults");
         if (wrong != 0) System.exit(1);
