@@ -838,10 +838,10 @@ public final class AgainstPlainModel {
         }
     }
 
-    /** Boards of every kind, each worth its GAME, with the options of it in ORDER. */
+    /** Every board, worth its GAME, with the options of it in ORDER. */
     private static void boardsInTurn() {
         Games games = new Games();
-        for (int free = 0; free < 65536; free += 37) {
+        for (int free = 0; free < 65536; free++) {
             PlankBench x = new PlankBench();
             Model m = new Model(games);
             for (int r = 0; r < 4; r++) due("row", x.row(0, r, free >> 4 * r & 15), m.row(0, r, free >> 4 * r & 15), 0, r, free);
