@@ -2,7 +2,7 @@ import java.util.Random;
 
 /**
  * Answers of unlike promises held against each other: what the document's terms make of one must fit
- * the other. Nothing here knows the due answers, so no model of the class can be wrong in the same way.
+ * the other. No model works out what is due here, so none can be wrong in the same way as the class.
  */
 public final class AgainstEachOther {
     private static int wrong = 0;
